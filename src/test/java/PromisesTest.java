@@ -591,14 +591,11 @@ public final class PromisesTest {
         due("thumb mean", demanding(20, 0, 30, 5, 5, 40, 0, 7).thumb(), 200);
         due("thumb every 2", demanding(9, 9).thumb(), 102);
         due("thumb every 3", demanding(5, 5, 5, 60, 5, 5).thumb(), 103);
-        LotPlanner y = demanding(9, 35, 4, 9, 9, 35, 4, 9, 4, 9, 9, 9, 9, 9, 9, 9);
-        due("thumb parts", thumbSlowly(y), y.thumb());
-    }
-
-    private static int leastOfEvery(LotPlanner x) {
-        int least = x.rule(0, 0, 0);
-        for (int n = 1; n <= 16; n++) least = Math.min(least, x.rule(1, n, 0));
-        return least;
+        // each and mean 240, every 2 and 3 250, every 4 260, parts 60 and 170
+        due("thumb parts", demanding(10, 60, 0, 20).thumb(), 300);
+        LotPlanner x = demanding(9, 35, 4, 9, 9, 35, 4, 9, 4, 9, 9, 9, 9, 9, 9, 9);
+        due("thumb by asking for all", x.thumb(), thumbSlowly(x));
+        due("thumb changes nothing", x.count(1), 181);
     }
 
     private static int thumbSlowly(LotPlanner x) {
