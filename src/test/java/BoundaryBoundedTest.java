@@ -139,6 +139,41 @@ public final class BoundaryBoundedTest extends Boundaries {
         dueBounded(x, 0, 1, 0, 2);
     }
 
+    static void thenByThePeriodsBehindAndSoOn() {
+        LotPlanner x = demandingForNothing(2, 0, 3, 1);
+        dueBounded(x, 0, 2, 0, 3, 1);
+        x.tell(3, ROOM, 0);
+        dueBounded(x, 0, 2, 0, 4, 0);
+        x.tell(2, ROOM, 1);
+        dueBounded(x, 0, 2, 3, 1, 0);
+        x.tell(1, ROOM, 2);
+        dueBounded(x, 0, 3, 2, 1, 0);
+    }
+
+    static void thenByThePeriodsBehindWithMakingThatCosts() {
+        LotPlanner x = demanding(2, 3, 4, 5);
+        x.tellAll(0, 3, SETUP, 0);
+        dueBounded(x, 14, 2, 3, 4, 5);
+        x.tell(2, ROOM, 2);
+        dueBounded(x, 16, 2, 5, 2, 5);
+    }
+
+    static void sixteenPeriodsBounded() {
+        LotPlanner x = ofPeriods(16);
+        x.tell(15, DEMAND, 5);
+        x.tell(15, LATE, 0);
+        due("bounded(-1)", x.bounded(-1), 55);
+        due("bounded(15)", x.bounded(15), 5);
+        // nothing may be owed behind the last one, though that would cost nothing
+        x.let(LATE_MAY_BE, 1);
+        due("bounded(-1) with late", x.bounded(-1), 55);
+        due("bounded(15) with late", x.bounded(15), 5);
+        x.tell(15, ROOM, 4);
+        due("bounded(14) with 4 in 15", x.bounded(14), 5);
+        x.tellAll(0, 14, ROOM, 0);
+        due("bounded(-1) with 4 in 15 alone", x.bounded(-1), NOT);
+    }
+
     static void theLeastMadeWithLateIsMadeLast() {
         LotPlanner x = demandingForNothing(2, 0, 0);
         x.let(LATE_MAY_BE, 1);

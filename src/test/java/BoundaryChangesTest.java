@@ -258,6 +258,92 @@ public final class BoundaryChangesTest extends Boundaries {
         due("bounded done again", x.bounded(-1), 160);
     }
 
+    static void thePlanFollowsUndoRightBehindAChange() {
+        LotPlanner x = demanding(10, 50);
+        due("least", x.least(), 160);
+        due("bounded", x.bounded(-1), 160);
+        x.tell(1, DEMAND, 0);
+        x.undo();
+        due("least behind tell and undo", x.least(), 160);
+        x.tell(0, DEMAND, 60);
+        due("least behind another", x.least(), 210);
+        due("bounded behind another", x.bounded(-1), 210);
+        x.undo();
+        x.redo();
+        due("least behind undo and redo", x.least(), 210);
+        x.undo();
+        due("least behind undo", x.least(), 160);
+        due("bounded behind undo", x.bounded(-1), 160);
+    }
+
+    private static void changeBy(LotPlanner x, int way) {
+        switch (way) {
+            case 0 -> x.tell(1, DEMAND, 60);
+            case 1 -> x.tellAll(0, 1, SETUP, 20);
+            case 2 -> x.let(STORE, 0);
+            case 3 -> x.let(LATE_MAY_BE, 1);
+            case 4 -> x.undo();
+            case 5 -> x.redo();
+            case 6 -> x.back();
+            case 7 -> x.from(0, 0, 0);
+            case 8 -> x.periods(1);
+            default -> x.read();
+        }
+    }
+
+    private static LotPlanner toBeChanged() {
+        LotPlanner x = demanding(10, 30);
+        x.image();
+        x.row(0, 1);
+        x.put(0, 0, 25);
+        x.tell(1, DEMAND, 49);
+        x.tell(0, HOLDING, 2);
+        x.undo();
+        feed(x, "demand 0 7");
+        return x;
+    }
+
+    static void thePlanFollowsAnyTwoChanges() {
+        for (int first = 0; first < 10; first++) {
+            for (int second = 0; second < 10; second++) {
+                LotPlanner x = toBeChanged();
+                LotPlanner y = toBeChanged();
+                due("least ahead", x.least(), 158);
+                due("bounded ahead", x.bounded(-1), 158);
+                changeBy(x, first);
+                changeBy(x, second);
+                changeBy(y, first);
+                changeBy(y, second);
+                // y wasn't asked ahead of the changes
+                dueSame("the changes " + first + " and " + second, x, y);
+            }
+        }
+    }
+
+    static void redoThatIsStateChangesNothing() {
+        LotPlanner x = ofPeriods(3);
+        x.tell(0, DEMAND, 4);
+        LotPlanner y = ofPeriods(3);
+        y.tell(0, DEMAND, 4);
+        due("redo", x.redo(), STATE);
+        dueSame("redo of none", x, y);
+    }
+
+    static void undoneAndDoneAgainWithStoreAndLate() {
+        LotPlanner x = ofPeriods(1);
+        x.let(STORE, 0);
+        x.let(LATE_MAY_BE, 1);
+        due("undo", x.undo(), 1);
+        due("late", x.count(6), 0);
+        due("store", x.count(5), 0);
+        due("undo", x.undo(), 0);
+        due("store", x.count(5), 999);
+        due("redo", x.redo(), 1);
+        due("store", x.count(5), 0);
+        due("redo", x.redo(), 0);
+        due("late", x.count(6), 1);
+    }
+
     // ---- the image
 
     static void backWithoutAnImageIsState() {

@@ -21,6 +21,20 @@ public final class BoundaryPlanTest extends Boundaries {
         due("cost", x.lot(0, 4), 57);
     }
 
+    static void aLotMayHaveOnePiece() {
+        LotPlanner x = demanding(9, 1);
+        x.tell(0, HOLDING, 99);
+        duePlan(x, "0-0@0:9,1-1@1:1");
+        due("cost", x.lot(1, 4), 51);
+        due("made", x.by(1, 0), 1);
+        LotPlanner y = demanding(1);
+        duePlan(y, "0-0@0:1");
+        due("least", y.least(), 51);
+        due("forward(1, 0)", y.forward(1, 0), 51);
+        due("forward(1, 1)", y.forward(1, 1), 0);
+        due("part(0, 1)", y.part(0, 1), 51);
+    }
+
     static void aLotMayHaveAllPeriods() {
         LotPlanner x = ofPeriods(16);
         x.tellAll(0, 15, HOLDING, 0);
@@ -337,6 +351,18 @@ public final class BoundaryPlanTest extends Boundaries {
         due("forward(0, 2)", x.forward(0, 2), 0);
     }
 
+    static void forwardOfSixteenPeriods() {
+        LotPlanner x = ofPeriods(16);
+        x.tellAll(0, 15, DEMAND, 99);
+        x.tellAll(0, 15, HOLDING, 99);
+        for (int t = 1; t <= 16; t++) {
+            due("forward(" + t + ", 0)", x.forward(t, 0), 149 * t);
+            due("forward(" + t + ", 1)", x.forward(t, 1), t - 1);
+            due("forward(" + t + ", 2)", x.forward(t, 2), t - 1);
+        }
+        due("forward(17, 0)", x.forward(17, 0), BAD);
+    }
+
     static void forwardOfNIsTheLeast() {
         LotPlanner x = demanding(10, 0, 20, 5);
         due("forward(4, 0)", x.forward(4, 0), 140);
@@ -414,6 +440,22 @@ public final class BoundaryPlanTest extends Boundaries {
         for (int t = 2; t <= 4; t++) due("forward(" + t + ", 1)", x.forward(t, 1), 1);
     }
 
+    static void askingThatIsBadOfThePlanChangesNothing() {
+        dueRefused("lot(-2, 0)", x -> x.lot(-2, 0), BAD);
+        dueRefused("lot(0, 5)", x -> x.lot(0, 5), BAD);
+        dueRefused("lot(9, 0)", x -> x.lot(9, 0), NOT);
+        dueRefused("by(-1, 0)", x -> x.by(-1, 0), FAR);
+        dueRefused("by(3, 0)", x -> x.by(3, 0), FAR);
+        dueRefused("by(0, 2)", x -> x.by(0, 2), FAR);
+        dueRefused("forward(-1, 0)", x -> x.forward(-1, 0), BAD);
+        dueRefused("forward(4, 0)", x -> x.forward(4, 0), BAD);
+        dueRefused("forward(0, 3)", x -> x.forward(0, 3), BAD);
+        dueRefused("forward(0, 1)", x -> x.forward(0, 1), NOT);
+        dueRefused("part(2, 1)", x -> x.part(2, 1), BAD);
+        dueRefused("part(-1, 1)", x -> x.part(-1, 1), BAD);
+        dueRefused("part(0, 4)", x -> x.part(0, 4), BAD);
+    }
+
     // ---- calm, firm
 
     static void makingAsGreatAsMakingAndHoldingAheadIsCalm() {
@@ -483,6 +525,21 @@ public final class BoundaryPlanTest extends Boundaries {
         due("firm of 7", x.forward(7, 2), 0);
         x.tell(5, DEMAND, 0);
         due("firm of 7 without it", x.forward(7, 2), 3);
+    }
+
+    static void firmIs0WithDemandRightBehindLast() {
+        LotPlanner x = demanding(10, 60, 1, 0);
+        for (int t = 2; t <= 4; t++) due("last of " + t, x.forward(t, 1), 1);
+        due("firm of 2: right behind is t", x.forward(2, 2), 1);
+        due("firm of 3: right behind is the last one", x.forward(3, 2), 0);
+        due("firm of 4", x.forward(4, 2), 0);
+    }
+
+    static void firmIs0WithDemandInThePeriodAheadOfTAlone() {
+        LotPlanner x = demanding(10, 60, 0, 0, 1);
+        for (int t = 2; t <= 5; t++) due("last of " + t, x.forward(t, 1), 1);
+        due("firm of 4", x.forward(4, 2), 1);
+        due("firm of 5", x.forward(5, 2), 0);
     }
 
     static void firmDoesntGoByDemandFromTOn() {

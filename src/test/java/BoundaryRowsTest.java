@@ -141,6 +141,40 @@ public final class BoundaryRowsTest extends Boundaries {
         dueRow(x, 1, new long[20]);
     }
 
+    static void aRowAnewLeavesOtherShelves() {
+        LotPlanner x = new LotPlanner();
+        for (int shelf = 3; shelf >= 0; shelf--) {
+            x.row(shelf, 20);
+            x.put(shelf, 0, 10 + shelf);
+            x.put(shelf, 19, 20 + shelf);
+        }
+        x.row(1, 20);
+        for (int shelf : new int[] {0, 2, 3}) {
+            due("the first place of " + shelf, x.get(shelf, 0), 10 + shelf);
+            due("the last place of " + shelf, x.get(shelf, 19), 20 + shelf);
+        }
+        dueRow(x, 1, new long[20]);
+        x.row(2, 0);
+        due("the last place of 1", x.put(1, 19, 5), 1);
+        due("the first place of 3", x.get(3, 0), 13);
+        due("the first place of 2", x.get(2, 0), Long.MIN_VALUE);
+    }
+
+    static void rowsStayWithAnotherN() {
+        LotPlanner x = withRow(4, 5, 6);
+        x.periods(1);
+        dueRow(x, 0, 4, 5, 6);
+        x.periods(16);
+        dueRow(x, 0, 4, 5, 6);
+    }
+
+    static void aShelfThatThereIsntGoesAheadOfPlace() {
+        due("put(4, -1, 1)", full().put(4, -1, 1), BAD);
+        due("put(-1, 20, 1)", full().put(-1, 20, 1), BAD);
+        due("into(-1, -1, 0)", full().into(-1, -1, 0), BAD);
+        due("from(-1, -1, 0)", full().from(-1, -1, 0), BAD);
+    }
+
     static void rowsAreNoChanges() {
         LotPlanner x = full();
         x.row(0, 2);

@@ -204,6 +204,16 @@ public final class BoundaryTextTest extends Boundaries {
         dueFault("demand 0 1;rooms 0 1", 11);
     }
 
+    static void aWordWithOneOtherLetterIsNone() {
+        for (String word : WORDS) {
+            dueText(word + " 0 1", 1);
+            for (int i = 0; i < word.length(); i++) {
+                dueFault(word.substring(0, i) + 'x' + word.substring(i + 1) + " 0 1", 0);
+                dueFault("demand 0 1;" + word.substring(0, i) + word.substring(i + 1) + " 0 1", 11);
+            }
+        }
+    }
+
     static void aWordIsAllLettersThatStandThere() {
         dueFault("demanda 0 1", 0);
         dueFault("demandz 0 1", 0);

@@ -56,6 +56,22 @@ public final class BoundaryThoughtTest extends Boundaries {
         due("keeps(1) of 1078", x.keeps(1), 999);
     }
 
+    static void keepsOfEachNumber0To999() {
+        // one piece, made in 0 or in 1 but for the setups alike: 0 goes ahead of 1
+        for (int setup = 1; setup <= 999; setup++) {
+            LotPlanner x = demandingForNothing(0, 1);
+            x.tell(0, SETUP, setup);
+            due("keeps(1) with " + setup + " ahead", x.keeps(1), setup - 1);
+        }
+        LotPlanner z = demandingForNothing(0, 1);
+        z.tell(1, SETUP, 999);
+        due("keeps(0) with 999 behind", z.keeps(0), 999);
+        z.tell(1, SETUP, 998);
+        due("keeps(0) with 998 behind", z.keeps(0), 998);
+        z.tell(1, SETUP, 0);
+        due("keeps(0) with 0 behind", z.keeps(0), 0);
+    }
+
     static void keepsMayBe0() {
         LotPlanner x = demanding(5, 5);
         x.tell(0, HOLDING, 0);
